@@ -120,6 +120,11 @@ public final class FaultsTest {
         fault("rings not and;", 3, 10);
         fault("rings rings;", 3, 6);
         fault("rings lat;", 3, 6);
+        fault("rings zz;", 3, 6);
+        fault("rings az;", 3, 6);
+        fault("rings `;", 1, 6);
+        fault("rings {;", 1, 6);
+        fault("rings :;", 1, 6);
         fault("rings lates;", 3, 6);
         fault("rings 1 and;", 1, 11);
         fault("rings 1 and", 1, 11);

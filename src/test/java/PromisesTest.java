@@ -247,6 +247,9 @@ public final class PromisesTest {
         C.same("first of 0", x.first(0), 2);
         C.same("first of a mule", x.first(2), NONE);
         C.refuses("first(4)", NO_SUCH, () -> x.first(4));
+        // HASTE of 1 sinks day by day: on the 39th it is 22, so that 1 is 2 LATE and LAST, and RINGS on the 40th
+        C.same("first on the 40th day", Check.of("person 1 0 0;person 24 60 0;duty 0 0;rings 0;mends 0;").first(1), 40);
+        C.same("first on the 41st day", Check.of("person 1 0 0;person 23 60 0;duty 0 0;rings 0;mends 0;").first(1), NONE);
         C.same("worst(1)", x.worst(1), 1);
         C.same("worst(2), of like ones the first", x.worst(2), 0);
         C.same("worst of no bell late", Check.of("duty 1 1;duty 2 2;").worst(40), 0);
@@ -407,6 +410,16 @@ public final class PromisesTest {
         LateRingers none = Check.of("person 1 0 0;");
         C.same("next without duties", none.next(0), NONE);
         C.same("how many", none.next(1), 0);
+        LateRingers eight = Check.of("person 10 0 0;duty 100 0;duty 200 0;");
+        for (int i = 0; i < 8; i++) {
+            eight.see(1, 1, 205);
+        }
+        C.same("eight of one kind", eight.habits(0), 1);
+        C.same("the first of them", eight.habits(1), 11);
+        LateRingers twelfth = Check.of("person 10 0 0;duty 0 0;rings day*habit;");
+        twelfth.see(0, 12, 110);
+        C.same("on the twelfth day", twelfth.habits(2), 1);
+        C.same("no other habit brings it", twelfth.habits(0), 0);
         // SEEN is asked from the moment of the question on
         LateRingers later = Check.of("person 0 0 0;duty 0 0;rings day;");
         later.see(0, 2, 1);
@@ -434,6 +447,10 @@ public final class PromisesTest {
         mules.appoint(0);
         C.same("a mule isn't THE RINGER for long", mules.snow(0, 1, 5), 0);
         C.same("the other one is", mules.snow(1, 1, 5), 10);
+        LateRingers just = Check.of("person 5 0 0;person 3 0 0;duty 0 0;duty 0 0;rings 0;mends 9*(late=20);");
+        C.same("by 15 minutes", just.snow(1, 1, 3), 3);
+        LateRingers clear = Check.of("person 5 0 0;person 3 0 0;duty 0 0;duty 0 0;rings 0;mends 9*(late=5);");
+        C.same("by none without snow", clear.snow(1, 1, 3), 7);
         C.same("two days", mends.snow(0, 2, 3) + mends.snow(1, 2, 3), 100);
         LateRingers still = Check.of("person 1 1 1;");
         C.same("nobody is THE RINGER", still.snow(0, 2, 5), 0);
@@ -449,6 +466,8 @@ public final class PromisesTest {
         LateRingers x = Check.of("person 30 0 0;person 25 0 0;duty 0 0;rings 0;mends 0;");
         C.refuses("game(2, 2, 0)", NO_SUCH, () -> x.game(2, 2, 0));
         C.refuses("game(0, 2, 0)", NO_SUCH, () -> x.game(0, 2, 0));
+        C.refuses("game(2, 0, 0)", NO_SUCH, () -> x.game(2, 0, 0));
+        C.refuses("game(-1, 0, 0)", NO_SUCH, () -> x.game(-1, 0, 0));
         C.refuses("game(0, 0, 2)", NO_SUCH, () -> x.game(0, 0, 2));
         C.refuses("game(0, 0, 0)", ILLEGAL, () -> x.game(0, 0, 0));
         // gains of 0 and 1: neither hurries 1 8, 0 alone 4 4, 1 alone 1 7, both 0 7
@@ -568,6 +587,8 @@ public final class PromisesTest {
         C.same("walk(1)", x.walk(1), 14);
         C.same("walk(3), from beyond", x.walk(3), 18);
         C.same("walk without duties", Check.of("person 1 1 1;").walk(0), 0);
+        C.same("walk to where one is", Check.of("person 1 1 0;duty 0 0;").walk(0), 0);
+        C.same("walk to the furthest", Check.of("person 1 1 30;duty 0 30;duty 0 30;").walk(0), 0);
         C.same("walk to one", Check.of("person 1 1 7;duty 0 3;pace 9;").walk(0), 36);
         C.refuses("walk(4)", NO_SUCH, () -> x.walk(4));
         C.same("twins", x.twins(), 0);
@@ -588,6 +609,10 @@ public final class PromisesTest {
         x.appoint(0);
         C.same("toMend of THE RINGER", x.toMend(0, 1), NONE);
         C.same("HASTE is as it was", x.person(0, 1), 2);
+        // of like ones 0 is LAST, the least: so it must COME ahead of 1
+        LateRingers most = Check.of("person 60 0 0;person 1 0 0;duty 0 0;duty 0 0;mends 0;");
+        C.same("toMend with 60", most.toMend(0, 1), 60);
+        C.same("toMend with more", Check.of("person 60 0 0;person 0 0 0;duty 0 0;duty 0 0;mends 0;").toMend(0, 1), NONE);
     }
 
     private static void bells() {
@@ -611,6 +636,9 @@ public final class PromisesTest {
         C.same("soonest(0, 13)", x.soonest(0, 13), 2);
         C.same("soonest(0, 14)", x.soonest(0, 14), 3);
         C.same("soonest(0, 120)", x.soonest(0, 120), NONE);
+        LateRingers slow = Check.of("person 1 0 0;duty 0 0;rings day;");
+        C.same("soonest on the 40th day", slow.soonest(0, 39), 40);
+        C.same("soonest on the 41st day", slow.soonest(0, 40), NONE);
         C.refuses("soonest(2, 121)", NO_SUCH, () -> x.soonest(2, 121));
         C.refuses("soonest(0, 121)", ILLEGAL, () -> x.soonest(0, 121));
         C.refuses("soonest(0, -1)", ILLEGAL, () -> x.soonest(0, -1));

@@ -7,6 +7,9 @@ public final class EdgesTest {
         new TextEdges(b).run();
         new TurnEdges(b).run();
         new AheadEdges(b).run();
+        new HeardEdges(b).run();
+        new NextDayEdges(b).run();
+        new PromiseEdges(b).run();
         b.end();
     }
 }

@@ -138,15 +138,23 @@ final class Book {
 
     /** The text comes behind the tape, with blanks up to twenty bytes. */
     void feed(String text) {
+        for (String call : feeds(text)) {
+            go(call);
+        }
+    }
+
+    private static List<String> feeds(String text) {
         byte[] all = Check.bytes(text);
+        List<String> calls = new ArrayList<>();
         for (int at = 0; at < all.length; at += 20) {
             int[] five = new int[5];
             for (int i = 0; i < 20; i++) {
                 int b = at + i < all.length ? all[at + i] & 255 : 32;
                 five[i / 4] = five[i / 4] << 8 | b;
             }
-            go("feed(" + five[0] + ", " + five[1] + ", " + five[2] + ", " + five[3] + ", " + five[4] + ")");
+            calls.add("feed(" + five[0] + ", " + five[1] + ", " + five[2] + ", " + five[3] + ", " + five[4] + ")");
         }
+        return calls;
     }
 
     /** The text on a new object: its FAULT (0: none), and the place. */
@@ -194,6 +202,24 @@ final class Book {
     void isRefused(String call, long want, int status) {
         give(call, want);
         sameBehind(call, status);
+    }
+
+    /** Rows of a call and the answer that is due: "count(0) = 8". */
+    void gives(String... rows) {
+        for (String row : rows) {
+            int at = row.indexOf(" = ");
+            give(row.substring(0, at), Long.parseLong(row.substring(at + 3)));
+        }
+    }
+
+    /** The answer is that of a new object of this TOWN: nothing is left of what was ahead of it. */
+    void isAsNew(String call, String text) {
+        LateRingers other = new LateRingers();
+        for (String fed : feeds(text)) {
+            answer(other, fed);
+        }
+        answer(other, "town(" + text.length() + ")");
+        give(call, (Long) answer(other, call));
     }
 
     /** NoSuchElementException, and nothing changes. */
@@ -249,6 +275,11 @@ final class Book {
             seen.add(answer(twin, "count(" + what + ")"));
         }
         look(twin, seen);
+        // the first question behind the call shows what that may have left
+        seen.add(answer(twin, "behind(3)"));
+        for (int d = 0; d < twin.count(1); d++) {
+            seen.add(answer(twin, "spread(" + d + ")"));
+        }
         for (int what = 0; what <= 2; what++) {
             seen.add(answer(twin, "habits(" + what + ")"));
         }

@@ -195,6 +195,11 @@ final class HeardEdges {
             b.give("snow(1, 1, " + tenths + ")", tenths);
             b.give("snow(0, 1, " + tenths + ")", 10 - tenths);
         }
+        // without snow nobody COMES later
+        b.town("person 5 0 0;person 3 0 0;duty 0 0;duty 0 0;rings 0;mends 9*(late=5);");
+        b.is("snow(1, 1, 3)", 7);
+        b.is("snow(1, 1, 10)", 0);
+        b.is("late(0, 0)", 5);
         // 15 minutes are behind when it RINGS, or behind when one would COME otherwise, whatever HASTE is
         b.town("person 5 40 0;person 3 60 0;duty 0 0;duty 0 0;rings 0;mends 9*(late=15);");
         b.is("snow(0, 1, 5)", 10);

@@ -15,6 +15,15 @@ final class PromiseEdges {
         "coming(%d, -1, 2)", "coming(%d, 0, 0)", "spread(%d)", "ahead(0, %d)", "soonest(%d, 121)", "soonest(%d, 5)",
         "late(0, %d)", "prompt(%d)"};
 
+    /** Each question, about PEOPLE and DUTIES that are in every TOWN here. */
+    private static final String[] QUESTIONS = {"count(5)", "count(6)", "person(1, 3)", "duty(1, 2)", "then(1, 7, 0)", "then(1, 7, 1)",
+        "later(1, 7, 0)", "later(0, 7, 1)", "first(1)", "worst(7)", "idle(7)", "round(0)", "round(1)", "delay(0, 1)", "delay(1, 0)",
+        "club(1, 2)", "club(0, 3)", "rota(-1)", "rota(0)", "rota(1)", "towers(1, 0)", "towers(1, 1)", "habits(0)", "habits(1)",
+        "habits(2)", "next(0)", "next(1)", "snow(1, 3, 4)", "snow(0, 5, 10)", "game(0, 1, 0)", "game(1, 0, 1)", "years(5, 9, 0)",
+        "years(5, 9, 1)", "years(5, 9, 2)", "coming(1, 0, 0)", "coming(1, 1, 1)", "coming(0, 2, 0)", "spread(1)", "ahead(1, 1)",
+        "nearest(1)", "neighbours(0, 4)", "toMend(1, 5)", "silent(2)", "behind(7)", "most(7)", "soonest(1, 5)", "handed(7)",
+        "loses(1)", "late(1, 1)", "prompt(1)", "walk(1)", "twins()"};
+
     private final Book b;
 
     PromiseEdges(Book b) {
@@ -101,6 +110,7 @@ final class PromiseEdges {
             b.noSuch(call.replace("%d", "0"));
         }
         b.is("days(1)", 1);
+        b.is("count(3)", 1);
     }
 
     private void feed() {
@@ -177,6 +187,8 @@ final class PromiseEdges {
         b.is("then(1, 1, 0)", 22);
         b.is("later(0, 1, 0)", 2);
 
+        anew();
+
         b.says("or the FAULT (all stays). ");
         for (String text : new String[] {"?", "person 1 2 3;pace 0;", "rings 1;mends foo;", "pace 1;pace 1;"}) {
             b.town("person 5 0 0;duty 10 0;duty 20 0;pace 3;rings 7;mends 3;");
@@ -232,6 +244,25 @@ final class PromiseEdges {
         b.is("fault()", 0);
         b.is("town(20)", 0);
         b.is("count(2)", 4);
+    }
+
+    /** The largest TOWN with all questions, then a small one: nothing is left. */
+    private void anew() {
+        String small = "person 5 0 0;person 3 0 4;duty 100 0;duty 200 2;rings late;";
+        for (String call : QUESTIONS) {
+            b.town(TextEdges.FULL);
+            b.go("days(3)", "image()", "see(5, 1, 568)");
+            b.go(QUESTIONS);
+            b.tell(small, 0);
+            b.isAsNew(call, small);
+        }
+        b.town(TextEdges.FULL);
+        b.go("ill(7, true)", "appoint(6)", "days(20)");
+        b.tell(small, 0);
+        b.go(QUESTIONS);
+        for (String call : QUESTIONS) {
+            b.isAsNew(call, small);
+        }
     }
 
     private void fault() {
@@ -1005,6 +1036,13 @@ final class PromiseEdges {
         b.is("habits(2)", 0);
         b.go("forget()");
         asKept();
+        // what is SEEN is the same, not only as much
+        b.town("person 10 0 0;duty 100 0;duty 200 0;rings late;mends 0;");
+        b.go("see(1, 1, 211)", "see(0, 2, 122)", "image()", "forget()", "see(0, 1, 7)", "see(1, 3, 8)", "restore()");
+        b.is("habits(0)", 1);
+        b.is("habits(1)", 11);
+        b.town(TOWN);
+        b.go("days(1)", "due(1, 300)", "ill(2, true)", "hurry(1, 33)", "see(1, 2, 3)", "image()");
         b.says("in place of another one.");
         b.go("days(1)", "image()", "days(1)");
         b.is("restore()", 1);

@@ -6,6 +6,11 @@ final class TextEdges {
     private static final String LEAST = "(0-" + BIG + "-1)";
     private static final String SIGNS = ";()+-*/<=";
 
+    /** As many PEOPLE and DUTIES as can be; 7 is always LAST, and RINGS 60 minutes behind DUE, at the last DUTY 68. */
+    static final String FULL = "person 1 0 0;person 2 0 0;person 3 0 0;person 4 0 0;person 5 0 0;person 6 0 0;"
+        + "person 7 0 0;person 8 0 0;duty 0 0;duty 100 0;duty 200 0;duty 300 0;duty 400 0;duty 500 0;"
+        + "rings 60+habit*(duty=5);mends 0;";
+
     private final Book b;
 
     TextEdges(Book b) {
@@ -45,6 +50,28 @@ final class TextEdges {
         b.give("later(0, 1, 0)", 3 + want - 1);
     }
 
+    /** "at most 8", "at most 6": each question in a TOWN that is full. */
+    private void fullTown() {
+        b.town(FULL);
+        b.gives("then(0, 1, 0) = 0", "then(5, 1, 0) = 568", "then(0, 2, 0) = 60", "then(5, 40, 0) = 568",
+            "then(5, 40, 1) = 7", "then(0, 1, 1) = 7", "count(0) = 8", "count(1) = 6", "later(7, 1, 1) = 5",
+            "later(7, 2, 1) = 11", "first(7) = 1", "first(6) = -1", "worst(1) = 5", "worst(2) = 5", "idle(1) = 127",
+            "round(0) = 2", "round(1) = 1", "delay(0, 5) = 7", "delay(6, 5) = 1", "delay(7, 5) = 0",
+            "club(5, 1) = 128", "club(5, 6) = 252", "rota(-1) = 21", "rota(5) = 5", "towers(0, 0) = 1",
+            "towers(0, 1) = 1", "habits(0) = 480", "habits(1) = 0", "next(0) = 5", "next(1) = 54",
+            "snow(7, 1, 5) = 10", "snow(0, 5, 5) = 0", "game(6, 7, 0) = 1", "game(6, 7, 1) = 11",
+            "years(5, 0, 0) = 0", "coming(5, 0, 0) = 0", "coming(5, 0, 1) = 569", "coming(5, 7, 0) = 7",
+            "spread(5) = 7", "ahead(7, 5) = 7", "nearest(7) = 0", "neighbours(7, 0) = 127", "toMend(7, 1) = 1",
+            "toMend(7, 2) = 2", "silent(0) = 63", "silent(1) = 1", "silent(2) = 0", "behind(1) = 308",
+            "behind(2) = 676", "most(1) = 7", "most(40) = 7", "soonest(5, 68) = 1", "soonest(5, 69) = -1",
+            "soonest(0, 60) = 2", "handed(40) = 1", "loses(7) = 63", "loses(0) = 0", "late(7, 5) = 76",
+            "late(0, 5) = 69", "prompt(5) = 0", "walk(7) = 0", "twins() = 0");
+        b.go("days(1)");
+        b.is("person(7, 4)", 5);
+        b.is("person(7, 3)", 76);
+        b.is("undo()", 0);
+    }
+
     private void people() {
         b.says("PEOPLE 0, 1 .. (at most 8): ");
         b.town(times("person 1 2 3;", 7));
@@ -57,6 +84,7 @@ final class TextEdges {
         b.noSuch("person(8, 0)");
         b.noSuch("person(-1, 0)");
         b.fault(times("person 1 2 3;", 8) + "person 1 2 3;", 2, 104);
+        fullTown();
 
         b.says("HABIT (0 to 60 minutes), ");
         between("%s %d 1 2;", 0, 60, 0);
@@ -403,6 +431,14 @@ final class TextEdges {
         rings("0 or (0-3)", 1);
         rings("5 or 7", 1);
         rings("0 or 0", 0);
+        // what doesn't hold is 0, not only less than 1
+        rings("(4<4)+5", 5);
+        rings("(5<4)+5", 5);
+        rings("(3=4)+5", 5);
+        rings("(not 7)+5", 5);
+        rings("(1 and 0)+5", 5);
+        rings("(0 or 0)+5", 5);
+        rings("(3<4)+(4=4)+(not 0)+(2 and 4)+(0 or 8)", 5);
     }
 
     private void values() {

@@ -69,6 +69,8 @@ final class TextEdges {
         b.go("days(1)");
         b.is("person(7, 4)", 5);
         b.is("person(7, 3)", 76);
+        b.is("person(0, 3)", 69);
+        b.is("count(6)", 0);
         b.is("undo()", 0);
     }
 

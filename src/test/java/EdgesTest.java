@@ -4,6 +4,7 @@ import java.io.IOException;
 public final class EdgesTest {
     public static void main(String[] args) throws IOException {
         Book b = new Book();
+        new StoryEdges(b).run();
         new TextEdges(b).run();
         new TurnEdges(b).run();
         new AheadEdges(b).run();

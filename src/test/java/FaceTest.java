@@ -85,6 +85,57 @@ public final class FaceTest {
         CHECK.yes("twelve classes at most", LateRingers.class.getDeclaredClasses().length < 12);
     }
 
+    /** Each line of the document's face stands in the source as it is there, parameters and exceptions in their order. */
+    private static void lines() throws IOException {
+        String doc = Files.readString(Path.of("../shared/DOC.md"));
+        String face = doc.substring(doc.indexOf("```java\n") + 8);
+        List<String> source = Files.readAllLines(Path.of(SOURCE));
+        int looked = 0;
+        for (String line : face.substring(0, face.indexOf("```")).split("\n")) {
+            boolean isMethod = line.endsWith(");") || line.contains(") throws ");
+            String written = isMethod ? line.substring(0, line.length() - 1) + " {" : line;
+            CHECK.yes("the source has: " + line, source.contains(written));
+            looked++;
+        }
+        CHECK.same("lines of the face", looked, 53);
+    }
+
+    private static void constantAndClass() throws ReflectiveOperationException {
+        Field none = LateRingers.class.getField("NONE");
+        CHECK.same("NONE is public static final", none.getModifiers(), Modifier.PUBLIC | Modifier.STATIC | Modifier.FINAL);
+        CHECK.yes("NONE is an int", none.getType() == int.class);
+        CHECK.same("NONE", none.getInt(null), -1);
+        CHECK.same("constructors", LateRingers.class.getDeclaredConstructors().length, 1);
+        CHECK.same("what the constructor throws", LateRingers.class.getConstructor().getExceptionTypes().length, 0);
+        CHECK.yes("it is of no other class", LateRingers.class.getSuperclass() == Object.class);
+        CHECK.same("interfaces", LateRingers.class.getInterfaces().length, 0);
+        TreeSet<String> names = new TreeSet<>();
+        for (Method m : LateRingers.class.getDeclaredMethods()) {
+            CHECK.yes("one method alone is named " + m.getName(), names.add(m.getName()));
+        }
+    }
+
+    /** Rule 11: some sixty lines a method, some twenty fields a class. */
+    private static void sizes() throws IOException {
+        List<String> source = Files.readAllLines(Path.of(SOURCE));
+        for (int i = 0; i < source.size(); i++) {
+            Matcher m = Pattern.compile("( {4}| {8})(\\w.*)?\\w+\\(.*\\{").matcher(source.get(i));
+            if (m.matches() && !source.get(i).matches(" *(if|for|while|switch|do|else) .*")) {
+                int length = source.subList(i, source.size()).indexOf(m.group(1) + "}");
+                CHECK.yes(source.get(i) + " has sixty lines at most", length > 0 && length < 60);
+            }
+        }
+        List<Class<?>> classes = new ArrayList<>(List.of(LateRingers.class.getDeclaredClasses()));
+        classes.add(LateRingers.class);
+        for (Class<?> one : classes) {
+            int fields = 0;
+            for (Field f : one.getDeclaredFields()) {
+                fields += Modifier.isStatic(f.getModifiers()) ? 0 : 1;
+            }
+            CHECK.yes(one + " has twenty fields at most", fields <= 20);
+        }
+    }
+
     private static void source() throws IOException {
         String text = Files.readString(Path.of(SOURCE));
         String code = text.replaceAll("(?s)/\\*.*?\\*/", "").replaceAll("//[^\n]*", "");
@@ -107,8 +158,11 @@ public final class FaceTest {
         }
     }
 
-    public static void main(String[] args) throws IOException {
+    public static void main(String[] args) throws IOException, ReflectiveOperationException {
+        lines();
+        constantAndClass();
         members();
+        sizes();
         source();
         CHECK.end();
     }
